@@ -233,7 +233,7 @@ public final class GasLedger {
 
         static int mix(int a, int b) {
             int t = a * 668265263 + b;
-            return t ^ t >>> 13;
+            return t ^ (t >>> 13);
         }
 
         /** The root of the map that gives values[base + key] to each key of so many bits that is a bit of keys. */
@@ -246,7 +246,7 @@ public final class GasLedger {
             int first = -1;
             int last = -1;
             for (int key = low; key < low + (1 << bits); key++) {
-                if ((keys >>> key & 1) != 0) {
+                if (((keys >>> key) & 1) != 0) {
                     first = first < 0 ? key : first;
                     last = key;
                 }
@@ -260,16 +260,16 @@ public final class GasLedger {
             }
             // All keys lie between the first and the last, so what these two share, all share.
             int rest = 1;
-            while (rest < bits && first >> rest != last >> rest) {
+            while (rest < bits && (first >> rest) != (last >> rest)) {
                 rest++;
             }
             if (rest < bits) {
-                int start = first >> rest << rest;
-                int shared = (1 << bits - rest) + (start - low >> rest);
+                int start = (first >> rest) << rest;
+                int shared = (1 << (bits - rest)) + ((start - low) >> rest);
                 return mix(mix(2, shared), rootOfPart(values, base, keys, start, rest));
             }
             int zeros = rootOfPart(values, base, keys, low, bits - 1);
-            int ones = rootOfPart(values, base, keys, low + (1 << bits - 1), bits - 1);
+            int ones = rootOfPart(values, base, keys, low + (1 << (bits - 1)), bits - 1);
             return mix(mix(3, zeros), ones);
         }
     }
@@ -417,7 +417,7 @@ public final class GasLedger {
                 numbers[count] = x;
             }
             count++;
-            bloom |= 1 << (x & 31) | 1 << (Commitment.mix(6, x) & 31);
+            bloom |= (1 << (x & 31)) | (1 << (Commitment.mix(6, x) & 31));
         }
 
         void cutBackTo(int earlierCount, int earlierBloom) {
@@ -656,7 +656,7 @@ public final class GasLedger {
 
         void removeGoers() {
             for (int account = 0; account < ACCOUNTS; account++) {
-                if ((goers >>> account & 1) != 0) {
+                if (((goers >>> account) & 1) != 0) {
                     accounts.clear(account);
                 }
             }

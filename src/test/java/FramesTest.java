@@ -286,7 +286,7 @@ public final class FramesTest {
     }
 
     private static void creating() {
-        GasLedger x = ledger(Words.create(40, 6, 3), Words.keep(0), Words.words(Words.VALUE, Words.push(7), Words.STORE));
+        GasLedger x = ledger(Words.create(40, 6, 3), Words.keep(0), Words.words(Words.VALUE), Words.keep(7));
         x.fund(2, 1);
         x.preset(3, 0, 1);
         x.code(4, 0);
@@ -342,7 +342,7 @@ public final class FramesTest {
 
     private static void creatingByADelegate() {
         GasLedger x = ledger(Words.delegate(500, 2, 0));
-        Words.load(x, 2, Words.join(Words.words(Words.STOP + 32, Words.STOP + 64), Words.words()));
+        Words.load(x, 2, Words.STOP);
         checks.due("a delegate that stops: pay", go(x, 3000, 0, 0), 53);
         GasLedger y = ledger(Words.delegate(500, 2, 0));
         Words.load(y, 2, Words.join(Words.create(7, 4, 2), Words.words(Words.POP, Words.push(1234))));

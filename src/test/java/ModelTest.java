@@ -166,7 +166,8 @@ public final class ModelTest {
             case 3, 4 -> add(words, Words.call(gasToGive(), busyAccount(), chance(40) ? 0 : random.nextInt(40) - 1, 3));
             case 5 -> add(words, Words.INPUT, Words.push(chance(60) ? 0 : 2), Words.SELF, Words.GAS, Words.CALL);
             case 6 -> add(words, Words.delegate(gasToGive(), busyAccount(), random.nextInt(5)));
-            case 7 -> add(words, Words.create(chance(50) ? 0 : random.nextInt(40) - 1, random.nextInt(5), random.nextInt(6)));
+            case 7 -> add(words,
+                Words.create(chance(50) ? 0 : random.nextInt(40) - 1, random.nextInt(5), random.nextInt(6)));
             case 8 -> add(words, Words.push(busyAccount()), Words.END);
             case 9, 10 -> add(words, Words.INPUT, Words.dup(0), Words.LOG);
             case 11 -> add(words, Words.push(random.nextInt(50)), chance(50) ? Words.REVERT : Words.RETURN);
@@ -225,7 +226,8 @@ public final class ModelTest {
     }
 
     private void terms() {
-        int limit = chance(3) ? anyInt() : chance(5) ? 19 + random.nextInt(2) : 20 + random.nextInt(chance(50) ? 2981 : 300);
+        int usual = 20 + random.nextInt(chance(50) ? 2981 : 300);
+        int limit = chance(3) ? anyInt() : chance(5) ? 19 + random.nextInt(2) : usual;
         int price = chance(3) ? anyInt() : chance(5) ? 100 + random.nextInt(2) : random.nextInt(3);
         int off = chance(3) ? anyInt() : 0;
         ledger.terms(limit, price, off);
