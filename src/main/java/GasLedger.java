@@ -487,7 +487,7 @@ public final class GasLedger {
         int input;
         int gas;
         private final int[] stack;
-        private int height;
+        int height;
 
         boolean ended;
         boolean endedWell;
@@ -525,10 +525,6 @@ public final class GasLedger {
         void fail() {
             gas = 0;
             end(false, 0);
-        }
-
-        boolean holds(int needed, int growth) {
-            return height >= needed && height + growth <= STACK;
         }
 
         /** The number so far below the top; 0 if there is none. */
@@ -606,10 +602,6 @@ public final class GasLedger {
         private static final int[] NEEDS = {
             0, 0, 1, 0, 0, 2, 2, 2, 2, 2, 2, 1, 1, 2, 1, 2,
             1, 0, 0, 0, 0, 0, 4, 3, 3, 1, 1, 1, 1, NEVER, NEVER, NEVER};
-        /** By how many numbers each operation makes the stack higher. */
-        private static final int[] GROWTHS = {
-            0, 1, -1, 1, 0, -1, -1, -1, -1, -1, -1, 0, -1, -2, 0, -2,
-            0, 1, 1, 1, 1, 1, -2, -1, -2, -1, -1, -1, -1, 0, 0, 0};
 
         private static final int FIRST_STORE_PRICE = 40;
         private static final int CLEARED_REFUND = 15;
@@ -701,7 +693,8 @@ public final class GasLedger {
             int operation = word & 31;
             int a = word >> 5;
             int price = priceOf(frame, operation);
-            if (frame.gas < price || !frame.holds(needsOf(operation, a), GROWTHS[operation])) {
+            boolean tooMany = frame.height == STACK && onlyPushes(operation);
+            if (frame.gas < price || frame.height < needsOf(operation, a) || tooMany) {
                 frame.fail();
                 return;
             }
@@ -746,6 +739,11 @@ public final class GasLedger {
                 case SWAP: return a < 1 ? NEVER : a + 1;
                 default: return NEEDS[operation];
             }
+        }
+
+        /** Whether an operation makes the stack higher: no other one can push a number too many. */
+        private static boolean onlyPushes(int operation) {
+            return operation == PUSH || operation == DUP || operation >= SELF && operation <= GAS;
         }
 
         /** What an operation that does nothing else pushes. */

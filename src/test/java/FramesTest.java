@@ -20,6 +20,9 @@ public final class FramesTest {
         goersAndTheirHeirs();
         goersUntilTheEnd();
         goersThatAreUndone();
+        whatWasDoneBeforeStays();
+        accountNought();
+        codeWrittenOverInARejectedBlock();
         checks.close();
     }
 
@@ -431,5 +434,64 @@ public final class FramesTest {
         checks.due("END undone: look(3, 0)", x.look(3, 0), 6);
         checks.due("END undone: look(3, 2)", x.look(3, 2), 2);
         checks.due("END undone: look(4, 0)", x.look(4, 0), 0);
+    }
+
+    /** A failing frame takes back nothing that was done before it began. */
+    private static void whatWasDoneBeforeStays() {
+        GasLedger x = ledger(Words.store(3, 0), Words.call(100, 2, 0, 0), Words.call(100, 4, 0, 0));
+        x.preset(1, 3, 33);
+        Words.load(x, 2, Words.push(3), Words.END);
+        x.fund(2, 5);
+        Words.load(x, 4, Words.push(1), Words.LOG, 31);
+        checks.due("before a failure: pay", go(x, 3000, 0, 0), 20 + 12 + 34 + 21 + 34 + 100 - 15);
+        checks.due("before a failure: slot(1, 3)", x.slot(1, 3), 0);
+        checks.due("before a failure: look(2, 2)", x.look(2, 2), 0);
+        checks.due("before a failure: look(3, 0)", x.look(3, 0), 5);
+        GasLedger y = ledger(Words.call(100, 2, 0, 0), Words.call(100, 3, 0, 0), Words.keep(0), Words.keep(1));
+        Words.load(y, 2, Words.push(7), Words.push(8), Words.STOP);
+        Words.load(y, 3, Words.ADD, Words.RETURN);
+        go(y, 3000, 0, 0);
+        checks.due("a frame's stack is empty at first: slot(1, 0)", y.slot(1, 0), 0);
+    }
+
+    private static void accountNought() {
+        GasLedger x = new GasLedger();
+        x.fund(7, 10000);
+        Words.load(x, 6, Words.join(Words.create(0, 5, 7), Words.words(Words.STOP), Words.store(0, 4),
+            Words.store(7, 5), Words.words(Words.STOP)));
+        x.begin(1, 9);
+        x.send(7, 6, 0, 0);
+        checks.due("account 0 is created: look(0, 2)", x.look(0, 2), 7);
+        x.send(7, 0, 3, 0);
+        checks.due("account 0 runs: slot(0, 0)", x.slot(0, 0), 4);
+        checks.due("account 0 runs: slot(0, 7)", x.slot(0, 7), 5);
+        GasLedger y = new GasLedger();
+        y.fund(7, 10000);
+        y.preset(0, 0, 1);
+        y.preset(0, 7, 1);
+        y.preset(1, 0, 1);
+        Words.load(y, 0, Words.push(7), Words.END);
+        y.begin(1, 9);
+        y.send(7, 0, 3, 0);
+        checks.due("account 0 goes: look(0, 2)", y.look(0, 2), 0);
+        checks.due("account 0 goes: slot(0, 0)", y.slot(0, 0), 0);
+        checks.due("account 0 goes: slot(0, 7)", y.slot(0, 7), 0);
+        checks.due("account 0 goes: slot(1, 0)", y.slot(1, 0), 1);
+        checks.due("account 0 goes: look(7, 0)", y.look(7, 0), 10000 - 41);
+    }
+
+    /** Account 1 goes, and account 2 creates another one there. */
+    private static void codeWrittenOverInARejectedBlock() {
+        GasLedger x = ledger(Words.words(Words.push(5), Words.END));
+        Words.load(x, 2, Words.create(0, 0, 4));
+        int root = x.root();
+        go(x, 300, 0, 0);
+        x.send(0, 2, 0, 0);
+        checks.due("created where one went: look(1, 2)", x.look(1, 2), 4);
+        checks.due("created where one went: word(1, 0)", x.word(1, 0), Words.push(4));
+        x.seal(1);
+        checks.due("then rejected: look(1, 2)", x.look(1, 2), 2);
+        checks.due("then rejected: word(1, 0)", x.word(1, 0), Words.push(5));
+        checks.due("then rejected: root()", x.root(), root);
     }
 }

@@ -246,6 +246,8 @@ public final class OperationsTest {
         well("DUP of the lowest of eleven", 0, 32, 0, ones(11, Words.dup(10)));
         well("SWAP with the lowest of twelve", 0, 33, 0, ones(12, Words.swap(11)));
         fails("SWAP below the lowest of twelve", 0, ones(12, Words.swap(12)));
+        fails("SWAP 0 on twelve numbers", 0, ones(12, Words.swap(0)));
+        fails("DUP -1 on eleven numbers", 0, ones(11, Words.dup(-1)));
         int[] others = {Words.POP, Words.ADD, Words.NONE, Words.LOAD, Words.BALANCE, Words.CALL, Words.DELEGATE,
             Words.CREATE};
         for (int word : others) {
@@ -257,6 +259,7 @@ public final class OperationsTest {
         for (int operation = 29; operation < 32; operation++) {
             fails("operation " + operation, 0, operation);
             fails("operation " + operation + " on numbers", 0, ones(4, operation));
+            fails("operation " + operation + " on twelve numbers", 0, ones(12, operation));
             fails("operation " + operation + " with a number in it", 0, operation - 64);
         }
     }

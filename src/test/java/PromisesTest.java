@@ -204,6 +204,10 @@ public final class PromisesTest {
     }
 
     private static void promise7Terms() {
+        GasLedger first = begunWith(Words.GAS, Words.RETURN);
+        checks.due("no terms yet: pay", first.pay(0, 1, 0, 0), 21);
+        checks.due("no terms yet: receipt(0, 2)", first.receipt(0, 2), 179);
+        checks.due("no terms yet: look(9, 0)", first.look(9, 0), 21);
         GasLedger x = begunWith(Words.GAS, Words.RETURN);
         x.terms(500, 3, 0);
         checks.due("terms, then send", x.send(0, 1, 0, 0), 21);
