@@ -1,3 +1,5 @@
+import java.util.Arrays;
+
 /** The words of programs, by their names. */
 final class Words {
     static final int STOP = 0;
@@ -67,6 +69,13 @@ final class Words {
 
     static int[] words(int... words) {
         return words;
+    }
+
+    /** The same word so many times. */
+    static int[] repeat(int count, int word) {
+        int[] all = new int[count];
+        Arrays.fill(all, word);
+        return all;
     }
 
     /** A CALL of an account with gas, a value and an input; 5 words. */
