@@ -35,6 +35,7 @@ public final class BlockBoundariesTest {
         test.shifts();
         test.rewardOfTheMiner();
         test.rejectedAsAWhole();
+        test.codeWrittenOver();
         test.sealWithNone();
         test.whatOfABlock();
         test.beforeTheFirstBlock();
@@ -540,6 +541,32 @@ public final class BlockBoundariesTest {
         due("block(0)", x.block(0), 3);
         due("block(1)", x.block(1), 3);
         due("look(7, 0)", x.look(7, 0), 3);
+    }
+
+    /** An account goes and another one is created there, in one block: a rejected one brings back the first. */
+    private void codeWrittenOver() {
+        sentences.by("else it is REJECTED, and all accounts are as they were before it was begun");
+        for (int account = 1; account < 16; account += 7) {
+            GasLedger x = new GasLedger();
+            for (int k = 0; k < 16; k++) {
+                x.fund(k, k == account ? 0 : 1000);
+            }
+            Words.load(x, account, Words.join(Words.words(Words.push(0), Words.END), Words.repeat(22, 77)));
+            Words.load(x, 0, Words.create(0, 0, 4));
+            int root = x.root();
+            x.begin(1, 0);
+            x.send(0, account, 0, 0);
+            due("it went: look(" + account + ", 2)", x.look(account, 2), 0);
+            x.send(0, 0, 0, 0);
+            due("another one: look(" + account + ", 2)", x.look(account, 2), 4);
+            due("another one: word(" + account + ", 0)", x.word(account, 0), Words.push(4));
+            due("another one: word(" + account + ", 4)", x.word(account, 4), 0);
+            x.seal(1);
+            due("rejected: look(" + account + ", 2)", x.look(account, 2), 24);
+            due("rejected: word(" + account + ", 0)", x.word(account, 0), Words.push(0));
+            due("rejected: word(" + account + ", 23)", x.word(account, 23), 77);
+            due("rejected: root()", x.root(), root);
+        }
     }
 
     private void sealWithNone() {

@@ -39,6 +39,11 @@ public final class FrameBoundariesTest {
         test.eachThingUndone();
         test.undoneInATransaction();
         test.gasIsNotUndone();
+        test.whatWasDoneBeforeStays();
+        test.endsWell();
+        test.callersOfFrames();
+        test.codeOfTheSameTransaction();
+        test.nonceOfACreator();
         test.leastTransaction();
         test.nothingIsAdded();
         test.whatIsTakenFirst();
@@ -137,6 +142,8 @@ public final class FrameBoundariesTest {
             GasLedger none = ledger(
                 Words.words(Words.push(0), Words.INPUT, Words.push(16), Words.push(100), Words.CALL), TELL);
             receiptDue("CALL of no account for " + value, go(none, 500, 0, value), 0, 500, 0);
+            GasLedger last = ledger(Words.words(Words.push(0), Words.INPUT, Words.push(2), Words.push(100), Words.CALL));
+            receiptDue("CALL for " + value + " as the last word", go(last, 500, 0, value), 0, 500, 0);
         }
     }
 
@@ -643,6 +650,107 @@ public final class FrameBoundariesTest {
             20 + 34 + 42 + 34 + 100 + 1 + 1, 600 - 232);
     }
 
+    /** What was done before a frame began is not taken back with it. */
+    private void whatWasDoneBeforeStays() {
+        sentences.by("all that was done since its beginning, by it and by frames inside");
+        for (int last = Words.REVERT; last <= 29; last += 2) {
+            for (int thing = 0; thing < THINGS.length; thing++) {
+                GasLedger x = new GasLedger();
+                x.fund(0, 100000);
+                x.fund(2, 10);
+                x.preset(2, 6, 6);
+                Words.load(x, 2, Words.join(THINGS[thing], Words.call(100, 7, 0, 0)));
+                Words.load(x, 7, Words.join(Words.store(0, 1), Words.words(Words.push(1), Words.LOG, Words.push(0), last)));
+                x.fund(5, 55);
+                Words.load(x, 5, Words.push(6), Words.END);
+                x.begin(1, 15);
+                String name = "thing " + thing + ", then a frame that ends by " + last;
+                int inner = last == Words.REVERT ? 42 + 13 + 1 : 100;
+                int refund = thing == 3 ? 15 : 0;
+                x.terms(600, 1, 0);
+                sentences.due(name + ": pay", x.pay(0, 2, 0, 0), 20 + COSTS[thing] + 34 + inner - refund);
+                int[] done = {x.look(4, 0), x.look(1, 2), x.slot(2, 0), x.slot(2, 6), x.block(7), x.look(5, 2)};
+                for (int k = 0; k < done.length; k++) {
+                    sentences.due(name + ", as to thing " + k, done[k], (k == thing ? IF_DONE : IF_NOT)[k]);
+                }
+                sentences.due(name + ": block(5)", x.block(5), thing == 4 ? LedgerModel.bloomOf(5) : 0);
+                sentences.due(name + ": slot(7, 0)", x.slot(7, 0), 0);
+            }
+        }
+    }
+
+    private void endsWell() {
+        sentences.by("A frame ENDS WELL by STOP (output 0), RETURN (output x) and END (output 0)");
+        int[][] words = {Words.words(Words.INPUT, Words.STOP), Words.words(Words.INPUT), Words.words(Words.INPUT, Words.RETURN),
+            Words.words(Words.INPUT, Words.REVERT), Words.words(Words.INPUT, Words.POP, Words.push(2), Words.END),
+            Words.words(Words.INPUT, 29)};
+        int[] used = {21, 21, 21, 21, 43, 100};
+        int[] inputs = {0, 1, -1, LEAST, GREATEST};
+        for (int input : inputs) {
+            for (int k = 0; k < words.length; k++) {
+                GasLedger x = go(ledger(words[k]), 100, 0, input);
+                boolean well = k != 3 && k != 5;
+                receiptDue("words " + k + " with " + input, x, well ? 1 : 0, used[k], k == 2 || k == 3 ? input : 0);
+            }
+        }
+    }
+
+    private void callersOfFrames() {
+        sentences.by("SELF is t, the code that of t, the caller SELF, value v, input i");
+        GasLedger x = new GasLedger();
+        x.fund(15, 1000);
+        x.fund(1, 10);
+        int[] tell = Words.words(Words.SELF, Words.LOG, Words.CALLER, Words.LOG, Words.VALUE, Words.LOG);
+        Words.load(x, 1, Words.join(tell, Words.call(500, 0, 0, 0), Words.delegate(500, 0, 0)));
+        Words.load(x, 0, tell);
+        x.begin(1, 9);
+        x.terms(400, 1, 0);
+        x.pay(15, 1, 6, 0);
+        int[] seen = {1, 15, 6, 0, 1, 0, 1, 15, 6};
+        for (int k = 0; k < seen.length; k++) {
+            sentences.due("log(" + k + ", 1)", x.log(k, 1), seen[k]);
+        }
+        sentences.due("block(7)", x.block(7), seen.length);
+    }
+
+    /** An account created in a transaction can be called in it; one that is to go can still be called. */
+    private void codeOfTheSameTransaction() {
+        sentences.by("Else SELF gives v to t, and a frame runs: SELF is t, the code that of t");
+        GasLedger x = ledger(Words.create(0, 11, 2), Words.words(Words.POP), Words.call(100, 2, 0, 0),
+            Words.words(Words.RETURN, Words.push(44), Words.RETURN));
+        go(x, 500, 0, 0);
+        sentences.due("created and called: status", x.receipt(0, 0), 1);
+        sentences.due("created and called: the flag", x.receipt(0, 2), 1);
+        sentences.due("created and called: used gas", x.receipt(0, 1), 20 + 67 + 1 + 34 + 1);
+        GasLedger y = ledger(Words.call(100, 2, 0, 1), Words.call(100, 2, 0, 0), TELL);
+        Words.load(y, 2, Words.INPUT, Words.push(5), Words.JUMPIF, Words.push(44), Words.RETURN, Words.push(3), Words.END);
+        sentences.due("to go and called: output", go(y, 500, 0, 0).receipt(0, 2), 1044);
+        sentences.due("to go and called: look(2, 2)", y.look(2, 2), 0);
+        // One that is to go is not empty yet, and no place to create.
+        GasLedger z = ledger(Words.call(100, 0, 0, 1), Words.create(0, 0, 1), Words.words(Words.RETURN));
+        Words.load(z, 0, Words.push(3), Words.END);
+        sentences.due("to go is not empty: output", go(z, 500, 0, 0).receipt(0, 2), 2);
+    }
+
+    private void nonceOfACreator() {
+        sentences.by("Else the nonce of SELF grows by 1");
+        GasLedger x = ledger(Words.create(0, 0, 1), Words.create(101, 0, 1), Words.create(0, 0, 1));
+        go(x, 500, 0, 0);
+        sentences.due("two created, one not: look(1, 1)", x.look(1, 1), 2);
+        sentences.due("two created, one not: look(0, 1)", x.look(0, 1), 1);
+        sentences.due("two created, one not: look(2, 1)", x.look(2, 1), 1);
+        sentences.due("two created, one not: look(3, 1)", x.look(3, 1), 1);
+        sentences.due("two created, one not: look(4, 1)", x.look(4, 1), 0);
+        GasLedger y = new GasLedger();
+        y.fund(1, 1000);
+        Words.load(y, 1, Words.create(0, 0, 1));
+        y.begin(1, 9);
+        y.send(1, 1, 0, 0);
+        sentences.due("a sender that creates: look(1, 1)", y.look(1, 1), 2);
+        sentences.due("its nonce is the sender's: pay", y.pay(1, 2, 0, 0), 20);
+        sentences.due("its nonce is the sender's: look(1, 1)", y.look(1, 1), 3);
+    }
+
     private void leastTransaction() {
         sentences.by("its USED gas is at first 20");
         receiptDue("a limit of 20, no word", go(ledger(), 20, 1, 0), 1, 20, 0);
@@ -749,25 +857,25 @@ public final class FrameBoundariesTest {
 
     private void allOfAGoerGoes() {
         sentences.by("Then the accounts that are to go have balance, nonce and all slots 0 and no code.");
-        for (int account = 1; account < 16; account += 7) {
+        for (int account = 0; account < 16; account += 5) {
             GasLedger x = new GasLedger();
-            x.fund(0, 10000);
+            x.fund(7, 10000);
             x.fund(account, 100);
             for (int k = 0; k < 8; k++) {
                 x.preset(account, k, k + 1);
-                x.preset(account - 1, k, 7);
+                x.preset((account - 1) & 15, k, 7);
                 x.preset((account + 1) & 15, k, 7);
             }
-            Words.load(x, account, Words.join(Words.create(0, 0, 1), Words.words(Words.push(0), Words.END),
+            Words.load(x, account, Words.join(Words.create(0, 0, 1), Words.words(Words.push(7), Words.END),
                 Words.repeat(18, 5)));
             x.begin(1, 12);
-            x.send(0, account, 3, 0);
+            x.send(7, account, 3, 0);
             for (int what = 0; what < 4; what++) {
                 sentences.due("look(" + account + ", " + what + ")", x.look(account, what), 0);
             }
             for (int k = 0; k < 8; k++) {
                 sentences.due("slot(" + account + ", " + k + ")", x.slot(account, k), 0);
-                sentences.due("the slots before it", x.slot(account - 1, k), 7);
+                sentences.due("the slots before it", x.slot((account - 1) & 15, k), 7);
                 sentences.due("the slots behind it", x.slot((account + 1) & 15, k), 7);
             }
             for (int k = 0; k < 24; k++) {

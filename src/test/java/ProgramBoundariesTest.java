@@ -34,6 +34,10 @@ public final class ProgramBoundariesTest {
         test.refundOfStore();
         test.accountsOfBalance();
         test.wordsThatFail();
+        test.jumpWithoutAPlace();
+        test.theTopFirst();
+        test.pricesKnownBeforePopping();
+        test.logsOfSelf();
         test.sentences.close();
     }
 
@@ -466,5 +470,83 @@ public final class ProgramBoundariesTest {
             }
         }
         sentences.due("28 does not", run(LIMIT, 2, Words.INPUT, Words.END).receipt(0, 0), 1);
+    }
+
+    /** With nothing to pop there is no place 0 to jump to: the second round would end well. */
+    private void jumpWithoutAPlace() {
+        sentences.by("fewer numbers are there than it pops or looks at");
+        int[] once = Words.join(Words.words(Words.push(1), Words.LOAD, Words.push(8), Words.JUMPIF), Words.store(1, 1));
+        fails("JUMP", 0, Words.join(once, Words.words(Words.JUMP, Words.STOP)));
+        fails("JUMPIF of one number", 0, Words.join(once, Words.words(Words.push(8), Words.JUMPIF)));
+        well("JUMP to 0", 0, 20 + 16 + 42 + 4 + 16, 0,
+            Words.join(Words.words(Words.push(1), Words.LOAD, Words.push(9), Words.JUMPIF), Words.store(1, 1),
+                Words.words(Words.push(0), Words.JUMP, Words.STOP)));
+    }
+
+    private void theTopFirst() {
+        sentences.by("then it pops what it says (the top first) and pushes its result");
+        well("SUB", 0, 23, 4, Words.push(9), Words.push(5), Words.SUB, Words.RETURN);
+        well("DIV", 0, 24, 3, Words.push(9), Words.push(3), Words.DIV, Words.RETURN);
+        well("LESS", 0, 23, 1, Words.push(5), Words.push(9), Words.LESS, Words.RETURN);
+        GasLedger x = run(LIMIT, 0, Words.push(5), Words.push(2), Words.STORE, Words.STOP);
+        sentences.due("STORE: slot(1, 2)", x.slot(1, 2), 5);
+        sentences.due("STORE: slot(1, 5)", x.slot(1, 5), 0);
+        well("JUMPIF: the place, then x", 0, 26, 0, Words.push(0), Words.push(4), Words.JUMPIF, Words.STOP, 31);
+        well("RETURN", 0, 22, 9, Words.push(5), Words.push(9), Words.RETURN);
+        GasLedger y = new GasLedger();
+        y.fund(0, 1000);
+        y.fund(1, 50);
+        Words.load(y, 1, Words.push(8), Words.push(7), Words.push(6), Words.push(40), Words.CALL);
+        Words.load(y, 6, Words.CALLER, Words.LOG, Words.VALUE, Words.LOG, Words.INPUT, Words.LOG, Words.GAS, Words.LOG);
+        y.begin(1, 9);
+        y.send(0, 1, 0, 0);
+        sentences.due("CALL with too little gas inside: block(7)", y.block(7), 0);
+        y = new GasLedger();
+        y.fund(0, 1000);
+        y.fund(1, 50);
+        Words.load(y, 1, Words.push(8), Words.push(7), Words.push(6), Words.push(42), Words.CALL);
+        Words.load(y, 6, Words.CALLER, Words.LOG, Words.VALUE, Words.LOG, Words.INPUT, Words.LOG, Words.GAS, Words.LOG);
+        y.begin(1, 9);
+        y.send(0, 1, 0, 0);
+        int[] seen = {1, 7, 8, 42 + 10 - 39 - 1};
+        for (int k = 0; k < 4; k++) {
+            sentences.due("CALL: log(" + k + ", 0)", y.log(k, 0), 6);
+            sentences.due("CALL: log(" + k + ", 1)", y.log(k, 1), seen[k]);
+        }
+        sentences.due("CALL: look(6, 0)", y.look(6, 0), 7);
+    }
+
+    /** A price that is not there is found out before anything is done. */
+    private void pricesKnownBeforePopping() {
+        sentences.by("(The prices of STORE, CALL and CREATE are known before anything is popped");
+        int[][] words = {Words.store(1, 5), Words.call(0, 2, 3, 0), Words.create(3, 0, 2)};
+        int[] prices = {40, 50, 64};
+        for (int k = 0; k < words.length; k++) {
+            int enough = 20 + words[k].length - 1 + prices[k];
+            for (int less = 0; less <= 1; less++) {
+                GasLedger x = run(enough - less, 0, words[k]);
+                String name = "words " + k + ", " + less + " less";
+                sentences.due(name + ": status", x.receipt(0, 0), 1 - less);
+                sentences.due(name + ": slot(1, 1)", x.slot(1, 1), k == 0 && less == 0 ? 5 : 0);
+                sentences.due(name + ": look(1, 0)", x.look(1, 0), k > 0 && less == 0 ? 67 : 70);
+                sentences.due(name + ": look(1, 1)", x.look(1, 1), k == 2 && less == 0 ? 1 : 0);
+                sentences.due(name + ": look(3, 2)", x.look(3, 2), k == 2 && less == 0 ? 2 : 0);
+            }
+        }
+    }
+
+    private void logsOfSelf() {
+        sentences.by("25 LOG [12] pops x: a log (SELF, x)");
+        int[] numbers = {0, 1, -1, LEAST, GREATEST};
+        for (int number : numbers) {
+            GasLedger x = run(33, number, Words.INPUT, Words.LOG);
+            receiptDue("LOG " + number, x, 1, 33, 0);
+            sentences.due("LOG " + number + ": log(0, 0)", x.log(0, 0), 1);
+            sentences.due("LOG " + number + ": log(0, 1)", x.log(0, 1), number);
+            sentences.due("LOG " + number + ": receipt(0, 3)", x.receipt(0, 3), 1);
+            GasLedger less = run(32, number, Words.INPUT, Words.LOG);
+            receiptDue("LOG " + number + ", one gas less", less, 0, 32, 0);
+            sentences.due("LOG " + number + ", one gas less: block(7)", less.block(7), 0);
+        }
     }
 }

@@ -71,6 +71,9 @@ final class Twins {
         note("fund(13, 1)", x.fund(13, 1) ? 1 : 0, names, answers);
         note("code(13, 4)", x.code(13, 4) ? 1 : 0, names, answers);
         note("preset(13, 7, 1)", x.preset(13, 7, 1) ? 1 : 0, names, answers);
+        // With no block under way a pay() would use up its terms and show nothing of them.
+        boolean begun = x.block(3) == 0 && x.begin(x.block(2) + 1, 2);
+        note("begin(latest + 1, 2), if none is under way", begun ? 1 : 0, names, answers);
         note("pay(0, 1, 0, 0)", x.pay(0, 1, 0, 0), names, answers);
         note("pay(0, 1, 0, 0)", x.pay(0, 1, 0, 0), names, answers);
         note("send(0, 1, 0, 0)", x.send(0, 1, 0, 0), names, answers);
