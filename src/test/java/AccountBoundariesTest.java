@@ -25,12 +25,14 @@ public final class AccountBoundariesTest {
         test.wordsOfNothing();
         test.slots();
         test.slotsOfNothing();
+        test.mostThatAnAccountHolds();
         test.settingEndsWithTheFirstBlock();
         test.emptyByEachPart();
         test.emptyAgain();
         test.emptyByANonceAlone();
         test.mixWraps();
         test.noKey();
+        test.slotsThatAreNought();
         test.oneSlot();
         test.twoSlots();
         test.threeSlots();
@@ -331,6 +333,29 @@ public final class AccountBoundariesTest {
         }
     }
 
+    private void mostThatAnAccountHolds() {
+        sentences.by("a CODE (at most 24 words, ints) and SLOTS 0 .. 7");
+        GasLedger x = new GasLedger();
+        for (int account = 14; account < 16; account++) {
+            for (int k = 0; k < 26; k++) {
+                due("code(" + account + ", least + " + k + ")", x.code(account, LEAST + k), k < 24);
+            }
+            for (int k = -1; k <= 8; k++) {
+                due("preset(" + account + ", " + k + ", greatest)", x.preset(account, k, GREATEST - k), k >= 0 && k < 8);
+            }
+        }
+        for (int account = 14; account < 16; account++) {
+            for (int k = -1; k <= 24; k++) {
+                due("word(" + account + ", " + k + ")", x.word(account, k), k >= 0 && k < 24 ? LEAST + k : 0);
+            }
+            for (int k = -1; k <= 8; k++) {
+                due("slot(" + account + ", " + k + ")", x.slot(account, k), k >= 0 && k < 8 ? GREATEST - k : 0);
+            }
+        }
+        due("look(13, 2)", x.look(13, 2), 0);
+        due("look(13, 3)", x.look(13, 3), 0);
+    }
+
     private void settingDue(String name, GasLedger x, boolean want) {
         due(name + ": fund(2, 1)", x.fund(2, 1), want);
         due(name + ": code(2, 1)", x.code(2, 1), want);
@@ -456,6 +481,22 @@ public final class AccountBoundariesTest {
         due("look(0, 3) of one with a slot", x.look(0, 3) == 0, false);
         x.preset(0, 4, 0);
         due("look(0, 3) of one that had one", x.look(0, 3), 0);
+    }
+
+    private void slotsThatAreNought() {
+        sentences.by("The SLOTS ROOT of an account is that of the map from 3 bits, the slots that are not 0, to these.");
+        for (int k = 0; k < 8; k++) {
+            GasLedger x = new GasLedger();
+            for (int other = 0; other < 8; other++) {
+                x.preset(7, other, 9);
+            }
+            for (int other = 0; other < 8; other++) {
+                x.preset(7, other, other == k ? -1 : 0);
+            }
+            due("all 0 but slot " + k, x.look(7, 3), one(8 + k, -1));
+            x.preset(7, k, 0);
+            due("all 0", x.look(7, 3), 0);
+        }
     }
 
     private static GasLedger withSlots(int... slots) {

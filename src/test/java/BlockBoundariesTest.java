@@ -33,6 +33,7 @@ public final class BlockBoundariesTest {
         test.justEnough();
         test.sumsThatWouldWrap();
         test.shifts();
+        test.rootOfTheHeader();
         test.rewardOfTheMiner();
         test.rejectedAsAWhole();
         test.codeWrittenOver();
@@ -40,6 +41,8 @@ public final class BlockBoundariesTest {
         test.whatOfABlock();
         test.beforeTheFirstBlock();
         test.blockBegunLast();
+        test.usedGasAndBloomOfNone();
+        test.logsOfAReceipt();
         test.receiptsKept();
         test.receiptsThatAreNotThere();
         test.logsKept();
@@ -478,13 +481,27 @@ public final class BlockBoundariesTest {
         due("seal(0) at last", x.seal(0), 1);
         due("block(0)", x.block(0), 2);
         due("block(1)", x.block(1), shifts.length);
-        // THE ROOT at the end has the 50 in it: a shift that would fit the root before them is no shift of 0.
-        GasLedger y = new GasLedger();
-        y.begin(1, 9);
-        GasLedger sealed = new GasLedger();
-        sealed.begin(1, 9);
-        sealed.seal(0);
-        due("the root before the 50", y.seal(y.root() - sealed.root()), 0);
+    }
+
+    private void rootOfTheHeader() {
+        sentences.by("it is ACCEPTED if the root that its header tells is THE ROOT then");
+        GasLedger x = begun();
+        x.send(0, 3, 0, 4);
+        int before = x.root();
+        due("seal(0)", x.seal(0), 1);
+        due("THE ROOT then is not the one before", x.root() == before, false);
+        GasLedger y = begun();
+        y.send(0, 3, 0, 4);
+        due("a header with the root before the 50", y.seal(before - x.root()), 0);
+        // The root of no account is 0, and a shift is a shift also there.
+        GasLedger z = new GasLedger();
+        due("root() of none", z.root(), 0);
+        z.begin(1, 0);
+        due("seal(1) on nothing", z.seal(1), 0);
+        due("root() of none again", z.root(), 0);
+        z.begin(1, 0);
+        due("seal(0) on nothing", z.seal(0), 1);
+        due("root() of one", z.root() == 0, false);
     }
 
     private void rewardOfTheMiner() {
@@ -645,6 +662,53 @@ public final class BlockBoundariesTest {
             due("the next one: log(0, 1)", x.log(0, 1), 9);
             due("the next one: block(5)", x.block(5), LedgerModel.bloomOf(9));
         }
+    }
+
+    private void usedGasAndBloomOfNone() {
+        sentences.by("its used gas or, if none is, that of the latest one (4); the bloom likewise (5)");
+        GasLedger x = ledger();
+        int[] shifts = {0, 1, 0};
+        due("no block yet: block(4)", x.block(4), 0);
+        due("no block yet: block(5)", x.block(5), 0);
+        for (int k = 0; k < shifts.length; k++) {
+            x.begin(k + 1, 9);
+            due("begun: block(4)", x.block(4), 0);
+            due("begun: block(5)", x.block(5), 0);
+            for (int sent = 0; sent <= k; sent++) {
+                x.send(0, 3, 0, 7 + k);
+                due("under way: block(4)", x.block(4), 33 * (sent + 1));
+                due("under way: block(5)", x.block(5), LedgerModel.bloomOf(7 + k));
+            }
+            x.send(0, 16, 0, 3);
+            x.seal(shifts[k]);
+            due("sealed: block(4)", x.block(4), 33 * (k + 1));
+            due("sealed: block(5)", x.block(5), LedgerModel.bloomOf(7 + k));
+            x.begin(k + 2, 16);
+            x.send(0, 3, 0, 3);
+            due("refused calls behind it: block(4)", x.block(4), 33 * (k + 1));
+            due("refused calls behind it: block(5)", x.block(5), LedgerModel.bloomOf(7 + k));
+        }
+        x.begin(9, 9);
+        x.seal(0);
+        due("an empty block: block(4)", x.block(4), 0);
+        due("an empty block: block(5)", x.block(5), 0);
+    }
+
+    private void logsOfAReceipt() {
+        sentences.by("its status (0), used gas (1), output (2), how many logs it made (3)");
+        GasLedger x = ledger();
+        Words.load(x, 4, Words.join(Words.call(50, 3, 0, 1), Words.words(Words.INPUT, Words.LOG), Words.call(20, 5, 0, 2)));
+        Words.load(x, 5, Words.INPUT, Words.LOG, 31);
+        x.begin(1, 9);
+        x.send(0, 4, 0, 8);
+        due("one inside, one, one undone: receipt(0, 3)", x.receipt(0, 3), 2);
+        x.send(0, 5, 0, 8);
+        due("one undone: receipt(1, 3)", x.receipt(1, 3), 0);
+        x.send(0, 3, 0, 8);
+        due("one: receipt(2, 3)", x.receipt(2, 3), 1);
+        x.send(0, 6, 0, 8);
+        due("none: receipt(3, 3)", x.receipt(3, 3), 0);
+        due("block(7)", x.block(7), 3);
     }
 
     private void receiptsKept() {
