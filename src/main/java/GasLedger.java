@@ -254,8 +254,8 @@ public final class GasLedger {
             if (first < 0) {
                 return 0;
             }
-            // With no bits left there is one key at most, so this ends what calls itself below.
-            if (first == last) {
+            // With no bits left there is one key, and nothing below calls itself any deeper.
+            if (bits <= 0 || first == last) {
                 return mix(mix(1, (1 << bits) + first - low), values[base + first]);
             }
             // All keys lie between the first and the last, so what these two share, all share.
